@@ -40,7 +40,6 @@ public final class StemBeams {
         if (eventCount > 0) {
             return STATE;
         }
-        takeBeamsAway();
         bars.set(up, down, groups);
         return bars.groupCount;
     }
@@ -314,8 +313,7 @@ public final class StemBeams {
         if (b <= 0) {
             return 0;
         }
-        int nearest = (2 * Math.abs(a) + b) / (2 * b);
-        return a < 0 ? -nearest : nearest;
+        return a < 0 ? -((b - 2 * a) / (2 * b)) : (b + 2 * a) / (2 * b);
     }
 
     private Event eventAt(int number) {
@@ -775,7 +773,7 @@ public final class StemBeams {
         long badnessAt(int f, int s) {
             long sum = slantBadness(s) + wedgeBadness(f) + wedgeBadness(f + s);
             for (int k = 0; k < size; k++) {
-                int length = notes[k].lengthTo(f + rise(s, k));
+                int length = notes[k].lengthTo(f + rounded(s * k, size - 1));
                 if (length < notes[k].least) {
                     return -1;
                 }
@@ -787,15 +785,11 @@ public final class StemBeams {
 
         private int wedgeBadness(int height) {
             int over = height - notes[0].middle();
-            return way != BETWEEN && over >= -8 && over <= 8 && Math.floorMod(over, 4) == 2 ? 25 : 0;
-        }
-
-        private int rise(int s, int k) {
-            return rounded(s * k, size - 1);
+            return way != BETWEEN && over >= -8 && over <= 8 && (over & 3) == 2 ? 25 : 0;
         }
 
         int heightAt(int k) {
-            return first + rise(slant, k);
+            return first + rounded(slant * k, size - 1);
         }
 
         int laneAt(int k, int l) {
