@@ -58,6 +58,7 @@ public final class BeamsTest {
     private static final int NO = StemBeams.NONE, REST = StemBeams.STATE;
 
     private static void byGroups() {
+        Check.promise(10, "both begin in one GROUP");
         Check.row("eighths of 4 by 4", beams(notes(3, 3, 3, 3, 3, 3)), 0, 0, 1, 1, 2, 2);
         Check.row("one off the beat", beams(notes(4, 3, 3, 4)), 0, 0, 0, NO);
         StemBeams x = new StemBeams();
@@ -77,6 +78,7 @@ public final class BeamsTest {
     }
 
     private static void byValues() {
+        Check.promise(10, "NOTES of VALUES 3 to 6");
         StemBeams x = new StemBeams();
         x.meter(4, 4, 4);
         add(x, 3, 3, 2, 3, 4, 4);
@@ -89,6 +91,7 @@ public final class BeamsTest {
     }
 
     private static void byMarks() {
+        Check.promise(10, "CUT and JOINED");
         StemBeams x = notes(4, 4, 4, 4, 3, 3);
         x.mark(2, 1);
         Check.row("CUT within a group", beams(x), 0, 0, 1, 1, 2, 2);
@@ -105,6 +108,7 @@ public final class BeamsTest {
     }
 
     private static void overRests() {
+        Check.promise(10, "beams go over RESTS");
         StemBeams x = notes(4, -4, 4, 4);
         Check.row("a rest parts them", beams(x), NO, REST, 0, 0);
         x.over(true);
@@ -147,6 +151,7 @@ public final class BeamsTest {
     }
 
     private static void acrossBars() {
+        Check.promise(10, "one GROUP of one bar");
         StemBeams x = new StemBeams();
         x.meter(1, 4, 0);
         add(x, 3, 3, 3, 3);
@@ -156,6 +161,7 @@ public final class BeamsTest {
     }
 
     private static void sixteenAtMost() {
+        Check.promise(10, "16 at most");
         StemBeams x = new StemBeams();
         x.meter(2, 4, 2);
         for (int i = 0; i < 19; i++) {
@@ -181,6 +187,7 @@ public final class BeamsTest {
     }
 
     private static void voices() {
+        Check.promise(10, "voice by voice");
         StemBeams x = new StemBeams();
         x.note(0, 1, 3, 0);
         x.note(0, 0, 3, 0);
@@ -203,6 +210,7 @@ public final class BeamsTest {
     }
 
     private static void manyBeams() {
+        Check.promise(10, "many beams");
         StemBeams x = new StemBeams();
         for (int i = 0; i < 64; i++) {
             x.note(0, 0, 6, 0);
@@ -217,6 +225,7 @@ public final class BeamsTest {
     }
 
     private static void open() {
+        Check.promise(10, "OPEN ones are none");
         StemBeams x = notes(3, 3, 3, 3);
         x.also(0, -12);
         x.also(1, 12);
@@ -234,6 +243,7 @@ public final class BeamsTest {
     }
 
     private static void levels() {
+        Check.promise(16, "who hangs together");
         StemBeams x = notes(4, 4, 3, 5, 5, 4, 3);
         x.group();
         Check.row("LEVEL 1", levels(x, 1), 2, 3, 1, 2, 3, 3, 1);
@@ -253,6 +263,7 @@ public final class BeamsTest {
     }
 
     private static void brokenLevels() {
+        Check.promise(16, "BROKEN");
         StemBeams x = notes(4, 4, 4, 4);
         x.broken(2, 2, true);
         x.group();
@@ -277,6 +288,7 @@ public final class BeamsTest {
     }
 
     private static void stubs() {
+        Check.promise(16, "STUBS");
         StemBeams x = new StemBeams();
         x.note(0, 0, 3, 1);
         x.note(0, 0, 4, 0);

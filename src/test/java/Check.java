@@ -1,8 +1,29 @@
-/** Counts and prints the answers that are not the ones due; every test ends with end(). */
+/** Counts and prints the answers that are not the ones due; every test names its promise, every program ends with end(). */
 final class Check {
-    private static int right = 0, wrong = 0;
+    private static String test = "no promise named";
+    private static int tests = 0, right = 0, wrong = 0, answersBefore = 0;
 
     private Check() {
+    }
+
+    /** Begins a test of one sentence of a promise. */
+    static void promise(int number, String sentence) {
+        about("promise " + number, sentence);
+    }
+
+    /** Begins a test of something that is no promise of one number. */
+    static void about(String part, String sentence) {
+        endTest();
+        test = part + " (" + sentence + ")";
+        tests++;
+        answersBefore = right + wrong;
+    }
+
+    private static void endTest() {
+        if (tests > 0 && right + wrong == answersBefore) {
+            wrong++;
+            System.out.println(test + ": nothing was looked at");
+        }
     }
 
     static void same(String what, long got, long due) {
@@ -10,7 +31,7 @@ final class Check {
             right++;
         } else {
             wrong++;
-            System.out.println(what + " answered " + got + ", due is " + due);
+            System.out.println(test + ": " + what + " answered " + got + ", due is " + due);
         }
     }
 
@@ -28,17 +49,21 @@ final class Check {
 
     static void throwsArithmetic(StemBeams x, int beam, int n) {
         boolean thrown = false;
+        boolean byTheMachine = false;
         try {
             x.share(beam, n);
         } catch (ArithmeticException e) {
             thrown = true;
+            byTheMachine = "/ by zero".equals(e.getMessage());
         }
         isTrue("share(" + beam + ", " + n + ") throws ArithmeticException", thrown);
+        isTrue("share(" + beam + ", " + n + ") throws it itself, before it divides", !byTheMachine);
     }
 
     static void end() {
-        System.out.println(right + " right, " + wrong + " wrong");
-        if (wrong != 0 || right == 0) {
+        endTest();
+        System.out.println(tests + " tests, " + right + " answers right, " + wrong + " wrong");
+        if (wrong != 0 || right == 0 || tests == 0) {
             System.exit(1);
         }
     }

@@ -31,6 +31,7 @@ public final class EventsTest {
     }
 
     private static void newObject() {
+        Check.promise(1, "no events; beams do not go over RESTS");
         StemBeams x = new StemBeams();
         Check.row("counts of a new object", counts(x), 0, 0, 0, 4, 256, 0, 0);
         Check.same("group() of a new object", x.group(), 0);
@@ -43,6 +44,7 @@ public final class EventsTest {
     }
 
     private static void usualGroups() {
+        Check.promise(2, "with 0 the GROUPS are told by UP and DOWN");
         // up, down, how many groups, ticks of a bar
         int[][] due = {
             {4, 4, 4, 256}, {3, 4, 3, 192}, {6, 4, 6, 384}, {3, 2, 3, 384}, {1, 2, 1, 128}, {16, 2, 16, 2048}, {1, 4, 1, 64},
@@ -59,6 +61,7 @@ public final class EventsTest {
     }
 
     private static void toldGroups() {
+        Check.promise(2, "GROUPS told by digits; OUTSIDE; STATE");
         StemBeams x = new StemBeams();
         Check.same("7 by 8, 223", x.meter(7, 8, 223), 3);
         Check.same("9 by 4, 9", x.meter(9, 4, 9), 1);
@@ -90,6 +93,7 @@ public final class EventsTest {
     }
 
     private static void whereGroupsLie() {
+        Check.promise(21, "the GROUP of the bar in which it begins");
         groupsOf(5, 8, 0, 0, 0, 1, 1, 1, 0, 0);
         groupsOf(7, 16, 0, 0, 0, 1, 1, 2, 2, 2, 0);
         groupsOf(6, 8, 0, 0, 0, 0, 1, 1, 1, 0);
@@ -108,6 +112,7 @@ public final class EventsTest {
     }
 
     private static void ticks() {
+        Check.promise(21, "TICKS of VALUES and DOTS");
         int[][] due = {{256, 384, 448}, {128, 192, 224}, {64, 96, 112}, {32, 48, 56}, {16, 24, 28}, {8, 12, 14}, {4, 6, 7}};
         for (int value = 0; value <= 6; value++) {
             for (int dots = 0; dots <= 2; dots++) {
@@ -126,6 +131,7 @@ public final class EventsTest {
     }
 
     private static void bars() {
+        Check.promise(3, "none may go beyond the end of its bar");
         StemBeams x = new StemBeams();
         x.meter(3, 4, 0);
         Check.same("a whole one is too long", x.note(0, 0, 0, 0), StemBeams.STATE);
@@ -143,6 +149,7 @@ public final class EventsTest {
     }
 
     private static void heads() {
+        Check.promise(5, "1 to 4 HEADS, no two at one PLACE");
         StemBeams x = new StemBeams();
         x.note(12, 0, 3, 0);
         Check.same("two", x.also(0, -12), 2);
@@ -165,6 +172,7 @@ public final class EventsTest {
     }
 
     private static void earlierStates() {
+        Check.promise(8, "what was so; likewise of promises 6, 7 and 9");
         StemBeams x = new StemBeams();
         x.note(0, 0, 4, 0);
         x.note(0, 0, 4, 0);
@@ -193,6 +201,7 @@ public final class EventsTest {
     }
 
     private static void counts() {
+        Check.promise(22, "what is counted");
         StemBeams x = new StemBeams();
         x.meter(5, 8, 32);
         x.note(-12, 0, 3, 0);
@@ -213,6 +222,7 @@ public final class EventsTest {
     }
 
     private static void clear() {
+        Check.promise(23, "all is as at the beginning");
         StemBeams x = new StemBeams();
         x.meter(5, 8, 32);
         x.over(true);

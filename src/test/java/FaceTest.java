@@ -14,6 +14,7 @@ public final class FaceTest {
         "int event(int,int)", "int count(int)", "int clear()"};
 
     public static void main(String[] args) throws ReflectiveOperationException {
+        Check.about("The public face", "these members and no other");
         Class<?> c = StemBeams.class;
         Check.isTrue("the class is public and final", Modifier.isPublic(c.getModifiers()) && Modifier.isFinal(c.getModifiers()));
         methods(c);

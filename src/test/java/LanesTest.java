@@ -39,6 +39,7 @@ public final class LanesTest {
     }
 
     private static void lanesUp() {
+        Check.promise(18, "lanes of a beam that goes up");
         // f 16: NEAR -4, WANT 20.
         StemBeams x = of(6, -2, -2);
         Check.row("towards the heads, down", lanes(x, 0), 16, 13, 10, 7);
@@ -55,6 +56,7 @@ public final class LanesTest {
     }
 
     private static void lanesDown() {
+        Check.promise(18, "lanes of a beam that goes down");
         StemBeams x = of(6, 2, 2);
         Check.row("towards the heads, up", lanes(x, 0), -16, -13, -10, -7);
         // f -13, SLANT 2.
@@ -64,6 +66,7 @@ public final class LanesTest {
     }
 
     private static void lanesBetween() {
+        Check.promise(18, "lanes BETWEEN");
         // NEAR 10 and -58, as in PlacesTest: f -23, SLANT -2 with WANT 14.
         StemBeams x = of(4, 5, -5);
         x.staff(1, 1);
@@ -73,6 +76,7 @@ public final class LanesTest {
     }
 
     private static void feathering() {
+        Check.promise(17, "FEATHERED; likewise the LANES of promise 18");
         StemBeams x = of(6, -2, -2, -2);
         Check.same("not at first", x.beam(0, 7), 0);
         Check.same("to the right", x.feather(0, 1), 0);
@@ -109,6 +113,7 @@ public final class LanesTest {
     }
 
     private static void restsAlone() {
+        Check.promise(19, "RESTS alone");
         StemBeams x = new StemBeams();
         x.pause(0, 2, 0);
         Check.same("VOICE 0 alone", x.rest(0), 0);
@@ -122,6 +127,7 @@ public final class LanesTest {
     }
 
     private static void restsUp() {
+        Check.promise(19, "within a beam that goes up");
         // f 5; LEVEL 2 at 2: -4 is 6 from it.
         Check.same("LEVEL 2", of(4, -4, 99, -4).rest(1), -4);
         // f 5: -1 is 6 from it, on to -4.
@@ -144,6 +150,7 @@ public final class LanesTest {
     }
 
     private static void restsDown() {
+        Check.promise(19, "within a beam that goes down");
         // f -5: LEVEL 2 at -2, 4 is 6 from it.
         Check.same("LEVEL 2", of(4, 4, 99, 4).rest(1), 4);
         // f -5: 1 is 6 from it, on to 4.
@@ -175,6 +182,7 @@ public final class LanesTest {
     }
 
     private static void restsFeathered() {
+        Check.promise(19, "within a FEATHERED beam");
         StemBeams x = of(4, -4, 99, -4);
         x.feather(0, 1);
         // The lane at note 0 is at 5 now: -1, on to -4.
@@ -189,6 +197,7 @@ public final class LanesTest {
     }
 
     private static void restsThatStay() {
+        Check.promise(19, "at least 6 from the last LANE");
         // VOICE 0 of two, up: NEAR 0, f 14; 8 is just 6 from it.
         StemBeams x = of(3, 0, 99, 0);
         x.pause(1, 2, 0);
@@ -210,6 +219,7 @@ public final class LanesTest {
     }
 
     private static void restsBetween() {
+        Check.promise(19, "BETWEEN it goes nowhere");
         StemBeams x = of(4, 5, 99, -5);
         x.staff(2, 1);
         x.group();

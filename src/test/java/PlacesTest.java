@@ -38,6 +38,7 @@ public final class PlacesTest {
     }
 
     private static void directions() {
+        Check.promise(11, "directions");
         Check.same("sum below 0", of(3, -3, 2).beam(0, 2), 1);
         Check.same("sum above 0", of(3, 3, -2).beam(0, 2), -1);
         Check.same("highest and lowest count, not the ends", of(3, -3, 5, -3).beam(0, 2), -1);
@@ -70,6 +71,7 @@ public final class PlacesTest {
     }
 
     private static void wedgesAndTies() {
+        Check.promise(13, "wedges; of like ones the first");
         // LENGTHS of 14 end at 6, a wedge; 5 and 7 are as good: the first one, upwards, is 5.
         StemBeams x = of(3, -4, -4);
         lies("up", x, 2, 1, 5, 0, 0, 1);
@@ -100,6 +102,7 @@ public final class PlacesTest {
     }
 
     private static void farBehind() {
+        Check.promise(11, "heights up to 12 behind");
         // NEAR -22, WANT 22, level height -12: 0 is 12 behind it.
         lies("12 behind", of(3, -11, -11), 0, 1, 0, 0, 0, 1);
         // NEAR -24, WANT 24, level height -14: up to -2, a wedge; -3 is left.
@@ -109,6 +112,7 @@ public final class PlacesTest {
     }
 
     private static void rounding() {
+        Check.promise(11, "ROUNDED");
         StemBeams x = of(3, 0, 2);
         lies("two notes", x, 2, -1, -13, 2, 2, 0);
         lies("three notes in a row", of(3, 0, 1, 2), 2, -1, -13, 2, 2, 0);
@@ -126,6 +130,7 @@ public final class PlacesTest {
     }
 
     private static void flat() {
+        Check.promise(11, "FLAT");
         lies("an inner note is lower, down", of(3, 3, 1, 4), 19, -1, -9, 0, 0, 1);
         lies("an inner note is higher, up", of(3, -3, -1, -4), 19, 1, 9, 0, 0, 1);
         Check.same("an inner one as low as an end", of(3, 3, 3, 4).beam(0, 6), 0);
@@ -145,6 +150,7 @@ public final class PlacesTest {
     }
 
     private static void ideal() {
+        Check.promise(11, "IDEAL");
         Check.same("half of e", of(3, 2, 5).beam(0, 5), 3);
         Check.same("downwards", of(3, 5, 2).beam(0, 5), -3);
         Check.same("6 at most", of(3, 2, 8).beam(0, 5), 6);
@@ -159,6 +165,7 @@ public final class PlacesTest {
     }
 
     private static void lengthsByLevels() {
+        Check.promise(13, "WANT and LEAST by LEVELS");
         // VALUE 4: 14; 5: 17; 6: 20. NEAR -4: ends at 10, 13, 16.
         lies("LEVELS 2", of(4, -2, -2), 0, 1, 10, 0, 0, 1);
         lies("LEVELS 3", of(5, -2, -2), 0, 1, 13, 0, 0, 1);
@@ -181,6 +188,7 @@ public final class PlacesTest {
     }
 
     private static void otherStaff() {
+        Check.promise(13, "STAFF 1");
         StemBeams x = of(3, -4, -4);
         x.staff(0, 1);
         x.staff(1, 1);
@@ -196,6 +204,7 @@ public final class PlacesTest {
     }
 
     private static void between() {
+        Check.promise(13, "BETWEEN");
         StemBeams x = of(3, 5, -5);
         x.staff(1, 1);
         x.group();
@@ -226,6 +235,7 @@ public final class PlacesTest {
     }
 
     private static void betweenBounds() {
+        Check.promise(11, "BETWEEN f is from -48 up to 0");
         StemBeams x = of(3, 12, 12, 12);
         x.staff(2, 1);
         x.group();
@@ -240,6 +250,7 @@ public final class PlacesTest {
     }
 
     private static void others() {
+        Check.promise(14, "another f and SLANT");
         StemBeams x = of(3, -4, -4);
         Check.same("f 200", x.other(0, 200, 0), 2 * 194 * 194);
         Check.same("f 201", x.other(0, 201, 0), -1);
@@ -266,6 +277,7 @@ public final class PlacesTest {
     }
 
     private static void shares() {
+        Check.promise(20, "LENGTHS added, by how many they are");
         // LENGTHS 15, 11, 17: 43 by 3.
         StemBeams x = of(3, 3, 1, 4);
         Check.same("cut off", share(x, 0, 1), 14);

@@ -12,6 +12,7 @@ public final class RandomRunsTest {
     private static int beamsSeen, openSeen, betweenSeen, fullSeen, flatSeen, restsMoved;
 
     public static void main(String[] args) {
+        Check.about("promises 1 to 23", "runs against the plain model");
         for (int run = 0; run < RUNS; run++) {
             dice = new Random(run);
             x = new StemBeams();

@@ -27,6 +27,7 @@ public final class RefusalsTest {
     }
 
     private static void notesAndPauses() {
+        Check.promise(3, "OUTSIDE, STATE; likewise of promise 4");
         StemBeams x = small();
         int[][] wrong = {{-13, 0, 3, 0}, {13, 0, 3, 0}, {0, -1, 3, 0}, {0, 2, 3, 0}, {0, 0, -1, 0}, {0, 0, 7, 0}, {0, 0, 3, -1},
             {0, 0, 3, 3}, {LOW, 0, 3, 0}, {HIGH, 0, 3, 0}, {0, LOW, 3, 0}, {0, HIGH, 3, 0}, {0, 0, LOW, 0}, {0, 0, HIGH, 0},
@@ -48,6 +49,7 @@ public final class RefusalsTest {
     }
 
     private static void room() {
+        Check.promise(3, "ROOM; likewise of promise 4");
         StemBeams x = new StemBeams();
         for (int i = 0; i < 32; i++) {
             Check.same("note", x.note(0, 0, 6, 0), 2 * i);
@@ -81,6 +83,7 @@ public final class RefusalsTest {
     }
 
     private static void aboutNotes() {
+        Check.promise(5, "UNKNOWN, OUTSIDE, STATE; likewise of promises 6, 7, 8, 15 and 16");
         String[] names = {"also", "staff", "mark", "broken", "stem", "level"};
         int[][] bounds = {{-12, 12}, {0, 1}, {0, 2}, {2, 4}, {0, 4}, {1, 4}};
         StemBeams x = small();
@@ -112,6 +115,7 @@ public final class RefusalsTest {
     }
 
     private static void aboutBeams() {
+        Check.promise(11, "UNKNOWN, OUTSIDE; likewise of promises 12, 13, 14, 17, 18 and 20");
         StemBeams x = small();
         for (int b : new int[] {-1, 1, 32, 33, 64, LOW, HIGH}) {
             Check.same("beam", x.beam(b, 0), UNKNOWN);
@@ -142,6 +146,7 @@ public final class RefusalsTest {
     }
 
     private static void aboutEvents() {
+        Check.promise(21, "UNKNOWN, OUTSIDE; likewise of promise 19");
         StemBeams x = small();
         for (int e : new int[] {-1, 4, 64, LOW, HIGH}) {
             Check.same("event of no event", x.event(e, 0), UNKNOWN);
@@ -156,6 +161,7 @@ public final class RefusalsTest {
     }
 
     private static void refusedKeepsBeams() {
+        Check.promise(3, "a refused call takes no beams away; likewise of promises 2 and 4 to 8");
         StemBeams x = small();
         x.meter(4, 4, 0);
         x.meter(0, 4, 0);
@@ -200,6 +206,7 @@ public final class RefusalsTest {
     }
 
     private static void acceptedTakesBeamsAway() {
+        Check.promise(3, "each event that comes and each call down to over() takes all beams away");
         StemBeams x = small();
         x.note(0, 0, 6, 0);
         taken("note", x);
@@ -220,6 +227,7 @@ public final class RefusalsTest {
     }
 
     private static void beforeAnyEvent() {
+        Check.promise(1, "no events");
         StemBeams x = new StemBeams();
         Check.same("also", x.also(0, 0), UNKNOWN);
         Check.same("staff", x.staff(0, 0), UNKNOWN);

@@ -27,6 +27,7 @@ public final class StemsTest {
     }
 
     private static void alone() {
+        Check.promise(15, "a note alone");
         Check.row("on the middle line", single(0, 2), -1, -14, 14, 0, NO);
         Check.row("above", single(1, 1), -1, -12, 14, 0, NO);
         Check.row("below", single(-1, 2), 1, 12, 14, 0, NO);
@@ -44,6 +45,7 @@ public final class StemsTest {
     }
 
     private static void twoVoices() {
+        Check.promise(15, "when VOICE 1 has events");
         StemBeams x = new StemBeams();
         x.note(6, 0, 2, 0);
         x.note(-12, 0, 2, 0);
@@ -59,6 +61,7 @@ public final class StemsTest {
     }
 
     private static void onStaffOne() {
+        Check.promise(15, "over the middle line of its STAFF");
         StemBeams x = new StemBeams();
         x.note(2, 0, 2, 0);
         x.staff(0, 1);
@@ -70,6 +73,7 @@ public final class StemsTest {
     }
 
     private static void flags() {
+        Check.promise(15, "FLAGS, as many as LEVELS");
         Check.row("VALUE 3", single(-1, 3), 1, 12, 14, 1, NO);
         Check.row("VALUE 4", single(-1, 4), 1, 12, 14, 2, NO);
         Check.row("VALUE 5", single(-1, 5), 1, 15, 17, 3, NO);
@@ -80,6 +84,7 @@ public final class StemsTest {
     }
 
     private static void inBeams() {
+        Check.promise(15, "by the beams that are now");
         StemBeams x = new StemBeams();
         x.note(0, 0, 3, 0);
         x.note(2, 0, 3, 0);
@@ -96,6 +101,7 @@ public final class StemsTest {
     }
 
     private static void whole() {
+        Check.promise(15, "VALUE 0 has none");
         StemBeams x = new StemBeams();
         x.note(0, 0, 0, 0);
         x.pause(0, 0, 0);
